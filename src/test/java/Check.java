@@ -22,7 +22,7 @@ final class Check {
     static void due(String call, long want, long got) {
         checked++;
         if (got != want) {
-            wrong("" + call + " answered " + got + ", due is " + want);
+            wrong(call + " answered " + got + ", due is " + want);
         }
     }
 
@@ -41,6 +41,8 @@ final class Check {
         } catch (RuntimeException e) {
             if (e.getClass() != kind) {
                 wrong(call + " threw " + e + ", due is " + kind.getName());
+            } else if (!isThrownByDesk(e)) {
+                wrong(call + " left it to the library to throw " + e);
             }
         }
     }
@@ -50,6 +52,12 @@ final class Check {
             asked.run();
             return 0;
         });
+    }
+
+    /** The class throws by itself; what a list or the machine throws has another first frame. */
+    static boolean isThrownByDesk(Throwable e) {
+        StackTraceElement[] frames = e.getStackTrace();
+        return frames.length > 0 && frames[0].getClassName().startsWith("SalesDesk");
     }
 
     private static void wrong(String what) {
