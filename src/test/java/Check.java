@@ -15,8 +15,27 @@ final class Check {
 
     private static int checked = 0;
     private static int wrong = 0;
+    private static int sentences = 0;
+    /** The sentence of the document that is looked at, before each wrong answer. */
+    private static String sentence = "";
 
     private Check() {
+    }
+
+    /** Tests one sentence of the document by itself; a test that checks nothing is wrong too. */
+    static void sentence(String words, Act test) {
+        sentence = words + ": ";
+        sentences++;
+        int before = checked;
+        try {
+            test.run();
+        } catch (RuntimeException e) {
+            wrong("threw " + e);
+        }
+        if (checked == before) {
+            wrong("nothing was checked");
+        }
+        sentence = "";
     }
 
     static void due(String call, long want, long got) {
@@ -63,13 +82,14 @@ final class Check {
     private static void wrong(String what) {
         wrong++;
         if (wrong <= 50) {
-            System.out.println(what);
+            System.out.println(sentence + what);
         }
     }
 
     /** Ends the test, with exit code 1 if an answer was wrong. */
     static void end() {
-        System.out.println(checked + " checks, " + wrong + " wrong");
+        String told = sentences == 0 ? "" : sentences + " sentences, ";
+        System.out.println(told + checked + " checks, " + wrong + " wrong");
         if (wrong != 0 || checked == 0) {
             System.exit(1);
         }
