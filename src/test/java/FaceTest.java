@@ -8,76 +8,102 @@ import java.util.ArrayList;
 import java.util.List;
 import java.util.Set;
 import java.util.TreeSet;
+import java.util.regex.Matcher;
 import java.util.regex.Pattern;
 
 /**
  * The public face as the document tells it, and those rules of ../shared/LANGUAGE.md that can be
- * seen in the class or in the words of its file, which is the argument.
+ * seen in the class or in the words of its file.
  */
 public final class FaceTest {
     private static final String OUT = "IndexOutOfBoundsException";
     private static final String ARGUMENT = "IllegalArgumentException";
     private static final String STATE = "IllegalStateException";
 
+    /** The headings and the calls behind them, in the order of the document. */
+    private static final String[] FACE = {
+        "---- days, accounts, regions",
+        call("int pass(int days)", ARGUMENT, STATE),
+        call("int addAccount(int above, int area, int size)", OUT, ARGUMENT, STATE),
+        call("int putRule(int place, int first, int last, int size, int region)", OUT, ARGUMENT,
+                STATE),
+        call("int removeRule(int place)", OUT),
+        call("int except(int account, int region)", OUT, ARGUMENT),
+        call("int regionOf(int account)", OUT),
+        "---- sellers",
+        call("int addSeller(int above, int limit)", OUT, ARGUMENT, STATE),
+        call("int adjust(int seller, int amount)", OUT, ARGUMENT),
+        "---- chances",
+        call("int addChance(int account, int seller, int amount)", OUT, ARGUMENT, STATE),
+        call("int giveShare(int chance, int from, int to, int part)", OUT, ARGUMENT, STATE),
+        call("int move(int chance, int stage)", OUT, ARGUMENT, STATE),
+        call("int stage(int chance)", OUT),
+        call("int daysIn(int chance, int stage)", OUT, ARGUMENT),
+        call("int stalled(int days)", ARGUMENT),
+        call("int worth(int chance)", OUT),
+        call("int inRegion(int region, int stage)", ARGUMENT),
+        call("int won(int account)", OUT),
+        "---- quotes",
+        call("int quote(int chance, int seller, int discount)", OUT, ARGUMENT, STATE),
+        call("void approve(int quote, int seller)", OUT, STATE),
+        call("int counting(int chance)", OUT, "NoSuchElementException"),
+        call("int waiting()"),
+        "---- forecasts",
+        call("int forecast(int seller)", OUT),
+        call("int own(int seller)", OUT),
+        call("int freeze()", STATE),
+        call("int since(int freeze, int seller)", OUT),
+    };
+
+    /** The argument is the folder of the project. */
     public static void main(String[] args) throws Exception {
-        Check.holds("the class is public and final",
-                Modifier.isPublic(SalesDesk.class.getModifiers())
-                        && Modifier.isFinal(SalesDesk.class.getModifiers()));
-        Check.holds("the class has no package", SalesDesk.class.getPackageName().isEmpty());
+        kind();
         methods();
         constructors();
         hidden();
-        if (args.length > 0) {
-            words(Files.readString(Path.of(args[0])));
-        }
+        String file = Files.readString(Path.of(args[0], "src/main/java/SalesDesk.java"));
+        declarations(file);
+        words(file);
         Check.end();
     }
 
-    private static List<String> face() {
-        List<String> face = new ArrayList<>();
-        face.add(line("int pass", 1, ARGUMENT, STATE));
-        face.add(line("int addAccount", 3, OUT, ARGUMENT, STATE));
-        face.add(line("int putRule", 5, OUT, ARGUMENT, STATE));
-        face.add(line("int removeRule", 1, OUT));
-        face.add(line("int except", 2, OUT, ARGUMENT));
-        face.add(line("int regionOf", 1, OUT));
-        face.add(line("int addSeller", 2, OUT, ARGUMENT, STATE));
-        face.add(line("int adjust", 2, OUT, ARGUMENT));
-        face.add(line("int addChance", 3, OUT, ARGUMENT, STATE));
-        face.add(line("int giveShare", 4, OUT, ARGUMENT, STATE));
-        face.add(line("int move", 2, OUT, ARGUMENT, STATE));
-        face.add(line("int stage", 1, OUT));
-        face.add(line("int daysIn", 2, OUT, ARGUMENT));
-        face.add(line("int stalled", 1, ARGUMENT));
-        face.add(line("int worth", 1, OUT));
-        face.add(line("int inRegion", 2, ARGUMENT));
-        face.add(line("int won", 1, OUT));
-        face.add(line("int quote", 3, OUT, ARGUMENT, STATE));
-        face.add(line("void approve", 2, OUT, STATE));
-        face.add(line("int counting", 1, OUT, "NoSuchElementException"));
-        face.add(line("int waiting", 0));
-        face.add(line("int forecast", 1, OUT));
-        face.add(line("int own", 1, OUT));
-        face.add(line("int freeze", 0, STATE));
-        face.add(line("int since", 2, OUT));
-        return face;
+    private static String call(String start, String... thrown) {
+        return "public " + start + (thrown.length == 0 ? "" : " throws " + String.join(", ", thrown));
     }
 
-    private static String line(String start, int parameters, String... thrown) {
-        return start + " of " + parameters + " throws " + List.of(thrown);
+    private static void kind() {
+        int modifiers = SalesDesk.class.getModifiers();
+        Check.due("the class is public and final", Modifier.PUBLIC | Modifier.FINAL, modifiers);
+        Check.holds("the class has no package", SalesDesk.class.getPackageName().isEmpty());
+        Check.holds("the class extends none", SalesDesk.class.getSuperclass() == Object.class);
+        Check.due("the interfaces of the class", 0, SalesDesk.class.getInterfaces().length);
     }
 
+    /** A method as the document would write it, but for the names of the parameters. */
     private static String line(Method method) {
+        List<String> taken = new ArrayList<>();
+        for (Class<?> kind : method.getParameterTypes()) {
+            taken.add(kind.getName());
+        }
         List<String> thrown = new ArrayList<>();
         for (Class<?> kind : method.getExceptionTypes()) {
             thrown.add(kind.getSimpleName());
         }
-        return method.getReturnType() + " " + method.getName() + " of "
-                + method.getParameterCount() + " throws " + thrown;
+        return call(method.getReturnType() + " " + method.getName() + "("
+                + String.join(", ", taken) + ")", thrown.toArray(new String[0]));
+    }
+
+    private static Set<String> due() {
+        Set<String> due = new TreeSet<>();
+        for (String row : FACE) {
+            if (row.startsWith("public ")) {
+                due.add(row.replaceAll("int \\w+(?=[,)])", "int"));
+            }
+        }
+        return due;
     }
 
     private static void methods() {
-        Set<String> due = new TreeSet<>(face());
         Set<String> are = new TreeSet<>();
         Set<String> names = new TreeSet<>();
         for (Method method : SalesDesk.class.getDeclaredMethods()) {
@@ -88,7 +114,8 @@ public final class FaceTest {
                         method.getModifiers() == Modifier.PUBLIC);
             }
         }
-        Check.holds("the methods are " + are + ", due are " + due, are.equals(due));
+        Check.due("the number of methods", 25, names.size());
+        Check.holds("the methods are " + are + ", due are " + due(), are.equals(due()));
         for (Method method : SalesDesk.class.getDeclaredMethods()) {
             if (Modifier.isPrivate(method.getModifiers())) {
                 Check.holds("a private method bears the public name " + method.getName(),
@@ -99,12 +126,26 @@ public final class FaceTest {
         }
     }
 
+    /** The calls as they stand in the file, with the names of their parameters and the headings. */
+    private static void declarations(String file) {
+        String flat = file.replaceAll("(?s)/\\*.*?\\*/", " ").replace("java.util.", "")
+                .replaceAll("\\s+", " ");
+        Matcher found = Pattern.compile("// (---- [a-z, ]*[a-z])(?= public )"
+                + "|(public (?:int|void) \\w+\\([^)]*\\)[^{]*?) \\{").matcher(flat);
+        List<String> rows = new ArrayList<>();
+        while (found.find()) {
+            rows.add(found.group(1) == null ? found.group(2) : found.group(1));
+        }
+        Check.holds("the file declares " + rows, rows.equals(List.of(FACE)));
+    }
+
     private static void constructors() {
         Constructor<?>[] constructors = SalesDesk.class.getDeclaredConstructors();
         Check.due("the number of constructors", 1, constructors.length);
         Check.holds("the constructor is public and takes nothing",
                 Modifier.isPublic(constructors[0].getModifiers())
                         && constructors[0].getParameterCount() == 0);
+        Check.due("the exceptions it declares", 0, constructors[0].getExceptionTypes().length);
     }
 
     private static void hidden() {

@@ -60,6 +60,16 @@ public final class MoneyTest {
             x.giveShare(0, 2, 1, 100);
             Check.due("giveShare(1, 2, 1, 30)", 30, x.giveShare(1, 2, 1, 30));
         });
+        Check.sentence("a seller added after the chance has none of it, and can be given it", () -> {
+            SalesDesk x = Desks.inStage(0);
+            x.addSeller(-1, 0);
+            Check.due("own(3)", 0, x.own(3));
+            Check.fails("giveShare(0, 3, 2, 1)", Check.STATE, () -> x.giveShare(0, 3, 2, 1));
+            Check.due("giveShare(0, 2, 3, 70)", 70, x.giveShare(0, 2, 3, 70));
+            Check.due("own(3)", 70, x.own(3));
+            Check.due("own(2)", 30, x.own(2));
+            Check.due("giveShare(0, 3, 2, 70), back", 100, x.giveShare(0, 3, 2, 70));
+        });
         Check.sentence("10, all the share is that of the one seller", () -> {
             SalesDesk x = Desks.inStage(0);
             Check.due("own(0)", 0, x.own(0));
@@ -213,6 +223,15 @@ public final class MoneyTest {
             x.approve(0, 0);
             Check.due("counting(0)", 0, x.counting(0));
             Check.due("worth(0)", 90, x.worth(0));
+        });
+        Check.sentence("a seller added after the chance makes a quote for it", () -> {
+            SalesDesk x = asking(0, 50).get();
+            x.addSeller(0, 5);
+            Check.due("quote(0, 1, 6)", 1, x.quote(0, 1, 6));
+            Check.due("counting(0), that one waits", 0, x.counting(0));
+            Check.due("counting(0), approved", 1, approved(x, 1, 0));
+            Check.due("quote(0, 1, 5)", 2, x.quote(0, 1, 5));
+            Check.due("counting(0), approved at once", 2, x.counting(0));
         });
         Check.sentence("that one counts which was approved last, not the best", () -> {
             SalesDesk x = asking(10, 50).get();

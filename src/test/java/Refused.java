@@ -4,10 +4,17 @@ import java.util.List;
 import java.util.Map;
 import java.util.function.Supplier;
 
-/** Sentences about calls that are refused, which change nothing, and about the last that are not. */
+/**
+ * Sentences about calls that are refused or that only ask, which change nothing, and about the last
+ * that are taken.
+ */
 final class Refused {
     interface On {
         int call(SalesDesk x);
+    }
+
+    interface Calls {
+        void on(SalesDesk x);
     }
 
     interface With {
@@ -22,11 +29,16 @@ final class Refused {
 
     /** The call throws what is named, and the desk is then like one on which it was not made. */
     static void refused(String words, Supplier<SalesDesk> desk, Class<?> kind, On call) {
+        unchanged(words, desk, x -> Check.fails("the call", kind, () -> call.call(x)));
+    }
+
+    /** At most two calls, behind which the desk is like one on which they were not made. */
+    static void unchanged(String words, Supplier<SalesDesk> desk, Calls calls) {
         Check.sentence(words, () -> {
             List<List<String>> due = SEEN.computeIfAbsent(desk, Refused::views);
             for (int part = 0; part < View.PARTS; part++) {
                 SalesDesk x = desk.get();
-                Check.fails("the call", kind, () -> call.call(x));
+                calls.on(x);
                 List<String> got = View.of(x, part);
                 Check.holds("the call changed " + change(due.get(part), got),
                         due.get(part).equals(got));

@@ -222,6 +222,14 @@ public final class TermsTest {
             Check.due("regionOf(15), the nearest one", 1, x.regionOf(15));
             Check.due("regionOf(6), above that", 3, x.regionOf(6));
         });
+        Check.sentence("a rule and an exception hold for accounts added after them", () -> {
+            SalesDesk x = ruled(5, 5, 4, 4, 0);
+            x.except(0, 1);
+            x.addAccount(-1, 4, 0);
+            x.addAccount(0, 5, 5);
+            Check.due("regionOf(1), by the rule", 3, x.regionOf(1));
+            Check.due("regionOf(2), by the exception above", 1, x.regionOf(2));
+        });
         Check.sentence("one beside or below does not tell a region", () -> {
             SalesDesk x = new SalesDesk();
             x.addAccount(-1, 5, 5);
@@ -538,6 +546,16 @@ public final class TermsTest {
             Check.due("won(1)", 2, x.won(1));
             Check.due("won(2)", 4, x.won(2));
             Check.due("won(3)", 8, x.won(3));
+        });
+        Check.sentence("18, an account added below later adds to the one above", () -> {
+            SalesDesk x = Desks.inStage(4);
+            x.addAccount(0, 0, 0);
+            Check.due("won(0)", 1000, x.won(0));
+            Check.due("won(1)", 0, x.won(1));
+            x.addChance(1, 0, 50);
+            Desks.bring(x, 1, 4);
+            Check.due("won(0)", 1050, x.won(0));
+            Check.due("won(1)", 50, x.won(1));
         });
         Check.sentence("18, the worth, not the amount", () -> {
             SalesDesk x = Desks.inStage(3);
